@@ -1,59 +1,5 @@
 /** Each promise of the document by rows worked out by hand: ordinary inputs, its edges, wrong inputs. */
-public final class PromiseTest {
-    private static final int NONE = -1, UNKNOWN = -101, OUTSIDE = -102, STATE = -103, FULL = -104;
-    private static final int LEAST = Integer.MIN_VALUE, MOST = Integer.MAX_VALUE;
-    private static final int PACK = 0, CUBS = 1, STARVED = 2, HERETIC = 3, PILGRIM = 4;
-    private static final String SIX = "f00,f01,f02,f03,f04,f06";
-
-    private static int wrong = 0;
-    private static int asked = 0;
-
-    private static void due(String call, long got, long want) {
-        asked++;
-        if (got != want) {
-            wrong++;
-            System.out.println(call + " answered " + got + ", due is " + want);
-        }
-    }
-
-    private static void write(WolfCalendar x, String text) {
-        for (int i = 0; i < text.length(); i++) {
-            x.letter(text.charAt(i));
-        }
-    }
-
-    private static WolfCalendar withFeasts(String text) {
-        WolfCalendar x = new WolfCalendar();
-        write(x, text);
-        x.feasts();
-        return x;
-    }
-
-    /** The digest as the document puts it together, from the other calls. */
-    private static long digestOf(WolfCalendar x, String page) {
-        long h = 743;
-        int today = x.count(4);
-        for (int what = 0; what <= 3; what++) h = 31 * h + x.dayOf(today, what);
-        for (int cell = 0; cell < 8; cell++) {
-            int forged = x.forge(cell, 0);
-            x.forge(cell, forged);
-            h = 31 * h + forged;
-        }
-        for (int pack = 0; pack < x.count(1); pack++) {
-            for (int what = 0; what <= 6; what++) h = 31 * h + x.about(pack, what);
-            for (int what = 0; what <= 1; what++) h = 31 * h + x.nail(pack, what);
-        }
-        for (int flock = 0; flock < x.count(2); flock++) {
-            for (int what = 0; what <= 3; what++) h = 31 * h + x.flockOf(flock, what);
-            if (x.flockOf(flock, 2) == 0) h = 31 * h + x.falls(flock);
-        }
-        h = 31 * h + x.loss(30);
-        if (x.fits(0) != STATE) h = 31 * (31 * h + x.fits(0)) + x.fits(1);
-        for (int i = 0; i < page.length(); i++) h = 31 * h + page.charAt(i);
-        for (int what = 0; what <= 9; what++) h = 31 * h + x.count(what);
-        return h;
-    }
-
+public final class PromiseTest extends Asking {
     private static void constants() {
         due("NONE", WolfCalendar.NONE, NONE);
         due("UNKNOWN", WolfCalendar.UNKNOWN, UNKNOWN);
@@ -268,20 +214,19 @@ public final class PromiseTest {
     }
 
     private static void promise09fasting() {
-        int[] all = {PACK, CUBS, STARVED, HERETIC, PILGRIM};
         // 215 is a FRIDAY, 216 and 217 are none.
-        for (int kind : all) fasts("", kind, 0, 5, kind == STARVED ? 0 : 1);
-        for (int kind : all) fasts("", kind, 0, 6, 0);
+        for (int kind : KINDS) fasts("", kind, 0, 5, kind == STARVED ? 0 : 1);
+        for (int kind : KINDS) fasts("", kind, 0, 6, 0);
         // 217 is the FEAST f07 and no FRIDAY; a PILGRIM fasts on 216 as well.
-        for (int kind : all) fasts("f07", kind, 0, 7, kind == CUBS ? 0 : 1);
-        for (int kind : all) fasts("f07", kind, 0, 6, kind == PILGRIM ? 1 : 0);
-        for (int kind : all) fasts("f07", kind, 0, 8, 0);
+        for (int kind : KINDS) fasts("f07", kind, 0, 7, kind == CUBS ? 0 : 1);
+        for (int kind : KINDS) fasts("f07", kind, 0, 6, kind == PILGRIM ? 1 : 0);
+        for (int kind : KINDS) fasts("f07", kind, 0, 8, 0);
         // The eve at the end of a YEAR: 239 READ, 240 is f00.
         fasts("f00", PILGRIM, 0, 29, 1);
         fasts("f00", HERETIC, 0, 29, 0);
         // LAGS count for a HERETIC and a PILGRIM alone.
-        for (int kind : all) fasts("", kind, 4, 9, kind >= HERETIC ? 1 : 0);
-        for (int kind : all) fasts("", kind, 5, 5, kind == STARVED || kind >= HERETIC ? 0 : 1);
+        for (int kind : KINDS) fasts("", kind, 4, 9, kind >= HERETIC ? 1 : 0);
+        for (int kind : KINDS) fasts("", kind, 5, 5, kind == STARVED || kind >= HERETIC ? 0 : 1);
     }
 
     private static void promise09prey() {
@@ -711,11 +656,6 @@ public final class PromiseTest {
         due("24 sixty DAYS", x.years(60, 77, 1), seedBehindDays(77, 60));
     }
 
-    private static long seedBehind(long seed, int draws) {
-        for (int n = 0; n < draws; n++) seed = (1103515245L * seed + 12345L) & 0x7fffffffL;
-        return seed;
-    }
-
     private static long seedBehindDays(long seed, int days) {
         for (int n = 0; n < days; n++) {
             seed = seedBehind(seed, 1);
@@ -886,7 +826,6 @@ public final class PromiseTest {
         promise26restore();
         promise27count();
         promise28digest();
-        System.out.println(wrong == 0 ? asked + " answers are as due" : wrong + " of " + asked + " answers are not as due");
-        if (wrong != 0) System.exit(1);
+        close();
     }
 }
